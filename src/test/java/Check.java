@@ -1,0 +1,78 @@
+/** What the tests of the project share: each check that fails is printed, and the test ends with exit code 1. */
+final class Check {
+    private static int checks = 0;
+    private static int wrong = 0;
+
+    private Check() {
+    }
+
+    static void same(String call, long got, long due) {
+        checks++;
+        if (got != due) {
+            fail(call + " answered " + got + ", due is " + due);
+        }
+    }
+
+    static void same(String call, double got, double due) {
+        checks++;
+        if (got != due) {
+            fail(call + " answered " + got + ", due is " + due);
+        }
+    }
+
+    /** The very class is asked for: the machine's own exceptions are subclasses of those of the document. */
+    static void refused(EelPermits lake, String call, Class<? extends RuntimeException> due, Runnable run) {
+        checks++;
+        long before = lake.digest();
+        try {
+            run.run();
+            fail(call + " threw nothing, due is " + due.getSimpleName());
+        } catch (RuntimeException e) {
+            if (e.getClass() != due) {
+                fail(call + " threw " + e.getClass().getSimpleName() + ", due is " + due.getSimpleName());
+            }
+        }
+        if (lake.digest() != before) {
+            fail(call + " changed something");
+        }
+    }
+
+    static void badIndex(EelPermits lake, String call, Runnable run) {
+        refused(lake, call, IndexOutOfBoundsException.class, run);
+    }
+
+    static void badArgument(EelPermits lake, String call, Runnable run) {
+        refused(lake, call, IllegalArgumentException.class, run);
+    }
+
+    static void badState(EelPermits lake, String call, Runnable run) {
+        refused(lake, call, IllegalStateException.class, run);
+    }
+
+    static void fail(String what) {
+        wrong++;
+        if (wrong <= 20) {
+            System.out.println("  " + what);
+        }
+    }
+
+    static void end() {
+        System.out.println("  " + checks + " checks, " + wrong + " wrong");
+        if (wrong > 0 || checks == 0) {
+            System.exit(1);
+        }
+    }
+
+    /** A lake whose ice stays as it is and where no hole freezes over. */
+    static EelPermits mildLake() {
+        EelPermits lake = new EelPermits();
+        setAllFrost(lake, 0);
+        return lake;
+    }
+
+    static void setAllFrost(EelPermits lake, int frost) {
+        for (int night = 0; night < 7; night++) {
+            lake.setFrost(night, frost);
+        }
+    }
+}
