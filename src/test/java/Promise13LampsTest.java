@@ -4,6 +4,7 @@ final class Promise13LampsTest {
         inOrderAsFarAsThereIsRoom();
         asFarAsThereAreSome();
         asFarAsTheLightGoes();
+        inAllDirections();
         spearersByNumbers();
         twoLampsAtOneHole();
         Check.end();
@@ -64,6 +65,48 @@ final class Promise13LampsTest {
         corner.pass(1);
         Check.same("at the light's corner", corner.cell(4, 4, 0), 48);
         Check.same("behind the light", corner.cell(3, 8, 0), 50);
+    }
+
+    /** All cells round the hole are told, those outside the light and over the lake's edges too. */
+    private static void inAllDirections() {
+        int[][] holes = {{2, 6}, {6, 2}, {7, 1}, {1, 7}, {8, 4}, {4, 8}};
+        for (int[] hole : holes) {
+            for (int light = 1; light <= 4; light++) {
+                EelPermits lake = Check.mildLake();
+                setAllEels(lake, 60);
+                lake.set(hole[0], hole[1], 0, 9);
+                spearerAt(lake, 30, light, hole[0], hole[1]);
+                lake.pass(1);
+                for (int c = 0; c < 81; c++) {
+                    checkLitCell(lake, c, hole, light);
+                }
+            }
+        }
+    }
+
+    /** 60 come from the first 30 cells at most. */
+    private static void checkLitCell(EelPermits lake, int cell, int[] hole, int light) {
+        int litBefore = 0;
+        for (int c = 0; c < cell; c++) {
+            litBefore += isLit(c, hole, light) ? 1 : 0;
+        }
+        int due = isLit(cell, hole, light) && litBefore < 30 ? 58 : 60;
+        if (cell != hole[1] * 9 + hole[0]) {
+            Check.same("light " + light + " at " + hole[0] + ", " + hole[1] + ", cell " + cell,
+                lake.cell(cell % 9, cell / 9, 0), due);
+        }
+    }
+
+    private static boolean isLit(int cell, int[] hole, int light) {
+        int farX = Math.abs(cell % 9 - hole[0]);
+        int farY = Math.abs(cell / 9 - hole[1]);
+        return farX <= light && farY <= light && farX + farY > 0;
+    }
+
+    private static void setAllEels(EelPermits lake, int eels) {
+        for (int c = 0; c < 81; c++) {
+            lake.set(c % 9, c / 9, eels, 0);
+        }
     }
 
     private static void spearersByNumbers() {

@@ -44,13 +44,30 @@ final class Promise13WardensTest {
         lake.warden(4, 3, 4);
         lake.warden(4, 3, 5);
         lake.pass(1);
-        // 4 away from each one is the hole 0 for the first warden, but 4 and 4 for (7, 7) too
+        // both holes are 4 away from each warden, so that the first two choose the hole 0
         isIn(lake, 0, 2, 3);
         isIn(lake, 1, 0, 0);
         isIn(lake, 2, 7, 7);
         Check.same("by the second warden", lake.spearer(0, 5), 1);
         Check.same("by the third warden, as 0 was fined", lake.spearer(1, 5), 1);
+        nearerByXOrByY(1, 6, 6, 4);
+        nearerByXOrByY(6, 1, 4, 6);
+        nearToTheOther();
+    }
 
+    /** The warden in (4, 4) is 3 away from the hole 0, and 2 away from the hole 1. */
+    private static void nearerByXOrByY(int x, int y, int nearX, int nearY) {
+        EelPermits lake = Check.mildLake();
+        spearerAt(lake, 3, x, y);
+        spearerAt(lake, 3, nearX, nearY);
+        lake.set(x, y, 20, 0);
+        lake.set(nearX, nearY, 20, 0);
+        lake.warden(4, 4, 8);
+        lake.pass(1);
+        isIn(lake, 0, nearX, nearY);
+    }
+
+    private static void nearToTheOther() {
         EelPermits near = Check.mildLake();
         spearerAt(near, 3, 0, 0);
         spearerAt(near, 3, 7, 7);

@@ -1,0 +1,75 @@
+/** Every call on a lake with all the holes and people that there may be: none may reach over its end. */
+final class FullLakeTest {
+    public static void main(String[] args) {
+        EelPermits lake = fullLake();
+        tellsAll(lake);
+        Check.same("all permits are kept", keptIn(lake), 8 * 2);
+        tellsAll(lake);
+        lake.setFrost(2, 1);
+        lake.pass(1);
+        lake.pass(1);
+        Check.same("4 froze over", lake.count(5), 8);
+        lake.setFrost(3, -20);
+        Check.same("bears()", lake.bears(), 1);
+        lake.pass(1);
+        Check.same("all are closed", lake.count(5), 0);
+        Check.same("advise(7)", lake.advise(7), -1);
+        tellsAll(lake);
+        lake.pass(40);
+        tellsAll(lake);
+        Check.end();
+    }
+
+    /** Each spearer is alone at a hole, and may keep 2; the wardens are far too slow to fine them all. */
+    private static EelPermits fullLake() {
+        EelPermits lake = Check.mildLake();
+        for (int h = 0; h < 12; h++) {
+            lake.set(h % 9, h / 9 * 8, 3, 0);
+            lake.cut(h % 9, h / 9 * 8);
+        }
+        for (int s = 0; s < 8; s++) {
+            lake.license(2, 0);
+            lake.go(s, s);
+        }
+        for (int w = 0; w < 3; w++) {
+            lake.warden(4, 4, 1 + w);
+        }
+        return lake;
+    }
+
+    private static int keptIn(EelPermits lake) {
+        int kept = lake.pass(1);
+        int catches = 0;
+        for (int s = 0; s < 8; s++) {
+            catches += lake.spearer(s, 3);
+        }
+        Check.same("catches", catches, kept);
+        return kept;
+    }
+
+    private static void tellsAll(EelPermits lake) {
+        long before = lake.digest();
+        for (int h = 0; h < 12; h++) {
+            Check.same("x of " + h, lake.hole(h, 0), h % 9);
+            Check.same("nearest warden", lake.hole(h, 4), 4);
+        }
+        int catches = 0;
+        for (int s = 0; s < 8; s++) {
+            lake.advise(s);
+            catches += lake.spearer(s, 3);
+        }
+        Check.same("mean()", lake.mean(), catches / 8.0);
+        lake.foresee(40, 8);
+        lake.bears();
+        Check.same("nothing is changed", lake.digest(), before);
+        Check.badIndex(lake, "hole(12, 0)", () -> lake.hole(12, 0));
+        Check.badIndex(lake, "spearer(8, 0)", () -> lake.spearer(8, 0));
+        Check.badIndex(lake, "about(3, 0)", () -> lake.about(3, 0));
+        Check.badIndex(lake, "advise(8)", () -> lake.advise(8));
+        Check.badIndex(lake, "go(0, 12)", () -> lake.go(0, 12));
+        Check.badIndex(lake, "go(8, 0)", () -> lake.go(8, 0));
+        Check.badState(lake, "cut(4, 4)", () -> lake.cut(4, 4));
+        Check.badState(lake, "license(0, 0)", () -> lake.license(0, 0));
+        Check.badState(lake, "warden(0, 0, 1)", () -> lake.warden(0, 0, 1));
+    }
+}
