@@ -17,10 +17,11 @@ final class FullLakeTest {
         tellsAll(lake);
         lake.pass(40);
         tellsAll(lake);
+        someAreFined();
         Check.end();
     }
 
-    /** Each spearer is alone at a hole, and may keep 2; the wardens are far too slow to fine them all. */
+    /** Each spearer is alone at a hole, and may keep 2; nobody takes more at first. */
     private static EelPermits fullLake() {
         EelPermits lake = Check.mildLake();
         for (int h = 0; h < 12; h++) {
@@ -35,6 +36,20 @@ final class FullLakeTest {
             lake.warden(4, 4, 1 + w);
         }
         return lake;
+    }
+
+    private static void someAreFined() {
+        EelPermits lake = fullLake();
+        for (int s = 0; s < 8; s++) {
+            lake.go(s, s < 4 ? 8 : 11);
+        }
+        for (int night = 0; night < 4; night++) {
+            lake.set(8, 0, 60, 0);
+            lake.set(2, 8, 60, 0);
+            lake.pass(1);
+        }
+        Check.same("fines", lake.count(8), lake.about(0, 3) + lake.about(1, 3) + lake.about(2, 3));
+        Check.same("some are fined", lake.count(8) > 0 ? 1 : 0, 1);
     }
 
     private static int keptIn(EelPermits lake) {

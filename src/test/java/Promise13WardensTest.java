@@ -50,21 +50,21 @@ final class Promise13WardensTest {
         isIn(lake, 2, 7, 7);
         Check.same("by the second warden", lake.spearer(0, 5), 1);
         Check.same("by the third warden, as 0 was fined", lake.spearer(1, 5), 1);
-        nearerByXOrByY(1, 6, 6, 4);
-        nearerByXOrByY(6, 1, 4, 6);
+        fartherByXOrByY(1, 4);
+        fartherByXOrByY(4, 1);
         nearToTheOther();
     }
 
-    /** The warden in (4, 4) is 3 away from the hole 0, and 2 away from the hole 1. */
-    private static void nearerByXOrByY(int x, int y, int nearX, int nearY) {
+    /** The warden in (4, 4) is 3 away from the hole 0, though in one direction alone, and 2 away from the hole 1. */
+    private static void fartherByXOrByY(int x, int y) {
         EelPermits lake = Check.mildLake();
         spearerAt(lake, 3, x, y);
-        spearerAt(lake, 3, nearX, nearY);
+        spearerAt(lake, 3, 6, 6);
         lake.set(x, y, 20, 0);
-        lake.set(nearX, nearY, 20, 0);
+        lake.set(6, 6, 20, 0);
         lake.warden(4, 4, 8);
         lake.pass(1);
-        isIn(lake, 0, nearX, nearY);
+        isIn(lake, 0, 6, 6);
     }
 
     private static void nearToTheOther() {
