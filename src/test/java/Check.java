@@ -1,9 +1,23 @@
 /** What the tests of the project share: each check that fails is printed, and the test ends with exit code 1. */
 final class Check {
+    private static int tests = 0;
     private static int checks = 0;
     private static int wrong = 0;
+    private static String current = "";
 
     private Check() {
+    }
+
+    /** A test of its own, under its own name: what it throws unasked is told, and hides no test behind it. */
+    static void test(String name, Runnable body) {
+        tests++;
+        current = name + ": ";
+        try {
+            body.run();
+        } catch (RuntimeException e) {
+            fail("threw " + e);
+        }
+        current = "";
     }
 
     static void same(String call, long got, long due) {
@@ -52,27 +66,14 @@ final class Check {
     static void fail(String what) {
         wrong++;
         if (wrong <= 20) {
-            System.out.println("  " + what);
+            System.out.println("  " + current + what);
         }
     }
 
     static void end() {
-        System.out.println("  " + checks + " checks, " + wrong + " wrong");
+        System.out.println("  " + (tests > 0 ? tests + " tests, " : "") + checks + " checks, " + wrong + " wrong");
         if (wrong > 0 || checks == 0) {
             System.exit(1);
-        }
-    }
-
-    /** A lake whose ice stays as it is and where no hole freezes over. */
-    static EelPermits mildLake() {
-        EelPermits lake = new EelPermits();
-        setAllFrost(lake, 0);
-        return lake;
-    }
-
-    static void setAllFrost(EelPermits lake, int frost) {
-        for (int night = 0; night < 7; night++) {
-            lake.setFrost(night, frost);
         }
     }
 }

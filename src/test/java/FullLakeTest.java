@@ -1,7 +1,7 @@
 /** Every call on a lake with all the holes and people that there may be: none may reach over its end. */
 final class FullLakeTest {
     public static void main(String[] args) {
-        EelPermits lake = fullLake();
+        EelPermits lake = Lakes.full();
         tellsAll(lake);
         Check.same("all permits are kept", keptIn(lake), 8 * 2);
         tellsAll(lake);
@@ -21,25 +21,8 @@ final class FullLakeTest {
         Check.end();
     }
 
-    /** Each spearer is alone at a hole, and may keep 2; nobody takes more at first. */
-    private static EelPermits fullLake() {
-        EelPermits lake = Check.mildLake();
-        for (int h = 0; h < 12; h++) {
-            lake.set(h % 9, h / 9 * 8, 3, 0);
-            lake.cut(h % 9, h / 9 * 8);
-        }
-        for (int s = 0; s < 8; s++) {
-            lake.license(2, 0);
-            lake.go(s, s);
-        }
-        for (int w = 0; w < 3; w++) {
-            lake.warden(4, 4, 1 + w);
-        }
-        return lake;
-    }
-
     private static void someAreFined() {
-        EelPermits lake = fullLake();
+        EelPermits lake = Lakes.full();
         for (int s = 0; s < 8; s++) {
             lake.go(s, s < 4 ? 8 : 11);
         }

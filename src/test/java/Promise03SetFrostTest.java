@@ -23,7 +23,7 @@ final class Promise03SetFrostTest {
     }
 
     private static void eachNightHasItsFrost() {
-        EelPermits lake = Check.mildLake();
+        EelPermits lake = Lakes.mild();
         int[] frost = {1, -2, 4, -8, 16, -5, 3};
         for (int night = 0; night < 7; night++) {
             lake.setFrost(night, frost[night]);

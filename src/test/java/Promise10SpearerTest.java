@@ -1,7 +1,7 @@
 /** Promise 10: spearer. */
 final class Promise10SpearerTest {
     public static void main(String[] args) {
-        EelPermits lake = Check.mildLake();
+        EelPermits lake = Lakes.mild();
         Check.badIndex(lake, "no spearer yet", () -> lake.spearer(0, 0));
         lake.license(9, 3);
         lake.license(30, 0);

@@ -1,7 +1,7 @@
 /** Promise 11: about. */
 final class Promise11AboutTest {
     public static void main(String[] args) {
-        EelPermits lake = Check.mildLake();
+        EelPermits lake = Lakes.mild();
         Check.badIndex(lake, "no warden yet", () -> lake.about(0, 0));
         lake.warden(7, 1, 3);
         lake.warden(0, 8, 8);

@@ -11,19 +11,19 @@ final class Promise13IceTest {
 
     private static void theIceIsHeld() {
         EelPermits lake = new EelPermits();
-        Check.setAllFrost(lake, 20);
+        Lakes.setAllFrost(lake, 20);
         int[] thick = {40, 60, 80, 90, 90};
         for (int due : thick) {
             lake.pass(1);
             Check.same("ice", lake.count(1), due);
         }
-        Check.setAllFrost(lake, -20);
+        Lakes.setAllFrost(lake, -20);
         int[] thin = {70, 50, 30, 10, 0, 0};
         for (int due : thin) {
             lake.pass(1);
             Check.same("ice", lake.count(1), due);
         }
-        Check.setAllFrost(lake, 5);
+        Lakes.setAllFrost(lake, 5);
         lake.pass(1);
         Check.same("from 0", lake.count(1), 5);
         Check.same("it bears", lake.count(2), 1);
@@ -44,7 +44,7 @@ final class Promise13IceTest {
             Check.same("stays there", lake.spearer(0, 2), 1);
         }
         EelPermits thick = new EelPermits();
-        Check.setAllFrost(thick, 20);
+        Lakes.setAllFrost(thick, 20);
         thick.pass(5);
         thick.cut(3, 3);
         thick.pass(1);

@@ -12,13 +12,13 @@ final class Promise13LampsTest {
 
     /** Eels of 41 and more do not breed, so that they are told as lamps and spears left them. */
     private static void inOrderAsFarAsThereIsRoom() {
-        EelPermits lake = Check.mildLake();
+        EelPermits lake = Lakes.mild();
         lake.set(4, 4, 55, 9);
         lake.set(5, 3, 50, 0);
         lake.set(3, 4, 50, 0);
         lake.set(5, 4, 50, 0);
         lake.set(3, 5, 50, 0);
-        spearerAt(lake, 30, 1, 4, 4);
+        Lakes.spearerAt(lake, 30, 1, 4, 4);
         Check.same("pass(1)", lake.pass(1), 22);
         Check.same("(5, 3) gave 2", lake.cell(5, 3, 0), 48);
         Check.same("(3, 4) gave 2", lake.cell(3, 4, 0), 48);
@@ -28,12 +28,12 @@ final class Promise13LampsTest {
     }
 
     private static void asFarAsThereAreSome() {
-        EelPermits lake = Check.mildLake();
+        EelPermits lake = Lakes.mild();
         lake.set(4, 4, 41, 9);
         lake.set(3, 3, 1, 0);
         lake.set(4, 3, 2, 0);
         lake.set(5, 5, 3, 0);
-        spearerAt(lake, 30, 1, 4, 4);
+        Lakes.spearerAt(lake, 30, 1, 4, 4);
         // 46 are there then
         Check.same("pass(1)", lake.pass(1), 15);
         Check.same("(4, 4)", lake.cell(4, 4, 0), 31 + 4);
@@ -44,13 +44,13 @@ final class Promise13LampsTest {
 
     private static void asFarAsTheLightGoes() {
         for (int light = 0; light <= 4; light++) {
-            EelPermits lake = Check.mildLake();
+            EelPermits lake = Lakes.mild();
             for (int far = 1; far <= 5; far++) {
                 lake.set(far, 0, 50, 0);
                 lake.set(far / 2, far, 50, 0);
             }
             lake.set(0, 0, 0, 9);
-            spearerAt(lake, 30, light, 0, 0);
+            Lakes.spearerAt(lake, 30, light, 0, 0);
             lake.pass(1);
             for (int far = 1; far <= 5; far++) {
                 int due = far <= light ? 48 : 50;
@@ -58,10 +58,10 @@ final class Promise13LampsTest {
                 Check.same("light " + light + ", along y " + far, lake.cell(far / 2, far, 0), due);
             }
         }
-        EelPermits corner = Check.mildLake();
+        EelPermits corner = Lakes.mild();
         corner.set(4, 4, 50, 0);
         corner.set(3, 8, 50, 0);
-        spearerAt(corner, 30, 4, 8, 8);
+        Lakes.spearerAt(corner, 30, 4, 8, 8);
         corner.pass(1);
         Check.same("at the light's corner", corner.cell(4, 4, 0), 48);
         Check.same("behind the light", corner.cell(3, 8, 0), 50);
@@ -72,10 +72,10 @@ final class Promise13LampsTest {
         int[][] holes = {{2, 6}, {6, 2}, {7, 1}, {1, 7}, {8, 4}, {4, 8}};
         for (int[] hole : holes) {
             for (int light = 1; light <= 4; light++) {
-                EelPermits lake = Check.mildLake();
-                setAllEels(lake, 60);
+                EelPermits lake = Lakes.mild();
+                Lakes.setAllCells(lake, 60, 0);
                 lake.set(hole[0], hole[1], 0, 9);
-                spearerAt(lake, 30, light, hole[0], hole[1]);
+                Lakes.spearerAt(lake, 30, light, hole[0], hole[1]);
                 lake.pass(1);
                 for (int c = 0; c < 81; c++) {
                     checkLitCell(lake, c, hole, light);
@@ -103,25 +103,19 @@ final class Promise13LampsTest {
         return farX <= light && farY <= light && farX + farY > 0;
     }
 
-    private static void setAllEels(EelPermits lake, int eels) {
-        for (int c = 0; c < 81; c++) {
-            lake.set(c % 9, c / 9, eels, 0);
-        }
-    }
-
     private static void spearersByNumbers() {
-        EelPermits lake = Check.mildLake();
+        EelPermits lake = Lakes.mild();
         lake.set(4, 4, 0, 0);
         lake.set(5, 4, 1, 0);
-        spearerAt(lake, 30, 1, 4, 4);
-        spearerAt(lake, 30, 1, 5, 4);
+        Lakes.spearerAt(lake, 30, 1, 4, 4);
+        Lakes.spearerAt(lake, 30, 1, 5, 4);
         Check.same("pass(1)", lake.pass(1), 1);
         Check.same("the first one", lake.spearer(0, 3), 0);
         Check.same("the last one had it", lake.spearer(1, 3), 1);
     }
 
     private static void twoLampsAtOneHole() {
-        EelPermits lake = Check.mildLake();
+        EelPermits lake = Lakes.mild();
         lake.set(6, 6, 50, 0);
         lake.cut(5, 5);
         for (int s = 0; s < 2; s++) {
@@ -131,9 +125,5 @@ final class Promise13LampsTest {
         lake.license(30, 4);
         lake.pass(1);
         Check.same("2 to each of the two, none to the one at no hole", lake.cell(6, 6, 0), 46);
-    }
-
-    private static void spearerAt(EelPermits lake, int permit, int light, int x, int y) {
-        lake.go(lake.license(permit, light), lake.cut(x, y));
     }
 }

@@ -1,7 +1,7 @@
 /** Promise 13 and steps 2 and 4 of a night: catches, eels in all, and the eels that come. */
 final class Promise13SpearsTest {
     public static void main(String[] args) {
-        EelPermits lake = Check.mildLake();
+        EelPermits lake = Lakes.mild();
         Check.badArgument(lake, "pass(0)", () -> lake.pass(0));
         Check.badArgument(lake, "pass(41)", () -> lake.pass(41));
         Check.badArgument(lake, "pass(-1)", () -> lake.pass(-1));
@@ -16,7 +16,7 @@ final class Promise13SpearsTest {
     private static void catchesOfOneCell() {
         int[][] eelsMudCatch = {{30, 3, 13}, {1, 0, 1}, {0, 0, 0}, {5, 9, 0}, {60, 0, 31}, {3, 2, 0}, {2, 0, 2}};
         for (int[] row : eelsMudCatch) {
-            EelPermits lake = Check.mildLake();
+            EelPermits lake = Lakes.mild();
             lake.set(7, 7, row[0], row[1]);
             lake.license(30, 0);
             lake.go(0, lake.cut(7, 7));
@@ -30,7 +30,7 @@ final class Promise13SpearsTest {
     }
 
     private static void oneBehindTheOther() {
-        EelPermits lake = Check.mildLake();
+        EelPermits lake = Lakes.mild();
         lake.set(2, 3, 30, 1);
         lake.cut(2, 3);
         for (int s = 0; s < 3; s++) {
@@ -50,7 +50,7 @@ final class Promise13SpearsTest {
     }
 
     private static void eelsComeByTenths() {
-        EelPermits lake = Check.mildLake();
+        EelPermits lake = Lakes.mild();
         int[][] beforeAfter = {{0, 0}, {1, 2}, {9, 10}, {10, 12}, {19, 21}, {20, 23}, {39, 43}, {40, 45}, {41, 41},
             {60, 60}};
         for (int i = 0; i < beforeAfter.length; i++) {
@@ -63,8 +63,8 @@ final class Promise13SpearsTest {
     }
 
     private static void manyNights() {
-        EelPermits lake = Check.mildLake();
-        EelPermits slow = Check.mildLake();
+        EelPermits lake = Lakes.mild();
+        EelPermits slow = Lakes.mild();
         EelPermits[] both = {lake, slow};
         for (EelPermits each : both) {
             each.set(1, 1, 60, 1);

@@ -12,8 +12,8 @@ final class Promise13WardensTest {
     }
 
     private static void byPaceInBothDirections() {
-        EelPermits lake = Check.mildLake();
-        spearerAt(lake, 0, 8, 2);
+        EelPermits lake = Lakes.mild();
+        Lakes.spearerAt(lake, 0, 0, 8, 2);
         lake.warden(0, 4, 3);
         lake.set(8, 2, 60, 0);
         lake.pass(1);
@@ -35,9 +35,9 @@ final class Promise13WardensTest {
     }
 
     private static void toTheNearest() {
-        EelPermits lake = Check.mildLake();
-        spearerAt(lake, 3, 0, 0);
-        spearerAt(lake, 3, 7, 7);
+        EelPermits lake = Lakes.mild();
+        Lakes.spearerAt(lake, 3, 0, 0, 0);
+        Lakes.spearerAt(lake, 3, 0, 7, 7);
         lake.set(0, 0, 60, 0);
         lake.set(7, 7, 20, 0);
         lake.warden(3, 4, 1);
@@ -57,9 +57,9 @@ final class Promise13WardensTest {
 
     /** The warden in (4, 4) is 3 away from the hole 0, though in one direction alone, and 2 away from the hole 1. */
     private static void fartherByXOrByY(int x, int y) {
-        EelPermits lake = Check.mildLake();
-        spearerAt(lake, 3, x, y);
-        spearerAt(lake, 3, 6, 6);
+        EelPermits lake = Lakes.mild();
+        Lakes.spearerAt(lake, 3, 0, x, y);
+        Lakes.spearerAt(lake, 3, 0, 6, 6);
         lake.set(x, y, 20, 0);
         lake.set(6, 6, 20, 0);
         lake.warden(4, 4, 8);
@@ -68,9 +68,9 @@ final class Promise13WardensTest {
     }
 
     private static void nearToTheOther() {
-        EelPermits near = Check.mildLake();
-        spearerAt(near, 3, 0, 0);
-        spearerAt(near, 3, 7, 7);
+        EelPermits near = Lakes.mild();
+        Lakes.spearerAt(near, 3, 0, 0, 0);
+        Lakes.spearerAt(near, 3, 0, 7, 7);
         near.set(0, 0, 60, 0);
         near.set(7, 7, 20, 0);
         near.warden(4, 5, 8);
@@ -79,9 +79,9 @@ final class Promise13WardensTest {
     }
 
     private static void ofSeveralTheSmallestNumber() {
-        EelPermits lake = Check.mildLake();
-        spearerAt(lake, 0, 8, 4);
-        spearerAt(lake, 0, 0, 4);
+        EelPermits lake = Lakes.mild();
+        Lakes.spearerAt(lake, 0, 0, 8, 4);
+        Lakes.spearerAt(lake, 0, 0, 0, 4);
         lake.set(8, 4, 10, 0);
         lake.set(0, 4, 10, 0);
         lake.warden(4, 4, 8);
@@ -90,8 +90,8 @@ final class Promise13WardensTest {
     }
 
     private static void onlyForMoreThanThePermit() {
-        EelPermits lake = Check.mildLake();
-        spearerAt(lake, 6, 1, 1);
+        EelPermits lake = Lakes.mild();
+        Lakes.spearerAt(lake, 6, 0, 1, 1);
         lake.set(1, 1, 10, 0);
         lake.warden(4, 4, 8);
         Check.same("6 of 6", lake.pass(1), 6);
@@ -107,8 +107,8 @@ final class Promise13WardensTest {
     }
 
     private static void theNextOneSeesWhatIsLeft() {
-        EelPermits lake = Check.mildLake();
-        spearerAt(lake, 2, 4, 4);
+        EelPermits lake = Lakes.mild();
+        Lakes.spearerAt(lake, 2, 0, 4, 4);
         lake.set(4, 4, 50, 0);
         lake.warden(5, 5, 1);
         lake.warden(3, 3, 1);
@@ -121,7 +121,7 @@ final class Promise13WardensTest {
     }
 
     private static void allWhoTookTooMuch() {
-        EelPermits lake = Check.mildLake();
+        EelPermits lake = Lakes.mild();
         int[] permits = {4, 30, 1, 0};
         lake.cut(4, 4);
         for (int s = 0; s < 4; s++) {
@@ -143,8 +143,8 @@ final class Promise13WardensTest {
     }
 
     private static void notOnTheWay() {
-        EelPermits lake = Check.mildLake();
-        spearerAt(lake, 0, 8, 0);
+        EelPermits lake = Lakes.mild();
+        Lakes.spearerAt(lake, 0, 0, 8, 0);
         lake.cut(2, 0);
         lake.license(30, 0);
         lake.go(1, 1);
@@ -154,10 +154,6 @@ final class Promise13WardensTest {
         lake.pass(1);
         isIn(lake, 0, 2, 0);
         Check.same("no fine by being there", lake.count(8), 0);
-    }
-
-    private static void spearerAt(EelPermits lake, int permit, int x, int y) {
-        lake.go(lake.license(permit, 0), lake.cut(x, y));
     }
 
     private static void isIn(EelPermits lake, int warden, int x, int y) {

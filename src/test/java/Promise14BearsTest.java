@@ -13,8 +13,8 @@ final class Promise14BearsTest {
         thin.pass(1);
         Check.same("it does not now", thin.bears(), 0);
 
-        EelPermits slow = Check.mildLake();
-        Check.setAllFrost(slow, -1);
+        EelPermits slow = Lakes.mild();
+        Lakes.setAllFrost(slow, -1);
         for (int nights = 16; nights >= 0; nights--) {
             Check.same("bears()", slow.bears(), nights);
             slow.pass(1);
@@ -22,33 +22,23 @@ final class Promise14BearsTest {
         Check.same("0 for ever", slow.bears(), 0);
 
         thicknessIsHeldMeanwhile();
-        Check.same("at most 200", bearsWithThawIn(4), 200);
-        Check.same("201 are too many", bearsWithThawIn(5), -1);
+        Check.same("at most 200", Lakes.losingOneAWeek(4).bears(), 200);
+        Check.same("201 are too many", Lakes.losingOneAWeek(5).bears(), -1);
         Check.end();
     }
 
     /** The ice would be 130 behind two nights if it was not held, and would bear for a week more. */
     private static void thicknessIsHeldMeanwhile() {
         EelPermits lake = new EelPermits();
-        Check.setAllFrost(lake, 20);
+        Lakes.setAllFrost(lake, 20);
         lake.pass(7);
         Check.same("ice", lake.count(1), 90);
         Check.same("it gets thicker", lake.bears(), -1);
-        Check.setAllFrost(lake, -20);
+        Lakes.setAllFrost(lake, -20);
         lake.setFrost(0, 20);
         lake.setFrost(1, 20);
         Check.same("90, 90, then 5 nights of thaw", lake.bears(), 7);
         lake.setFrost(6, -5);
         Check.same("10, then 5; 25, 45, 25, 5, then 0", lake.bears(), 12);
-    }
-
-    /** From 33 the ice loses 1 a week: behind 28 weeks it has 5, and 4 behind the next loss. */
-    private static int bearsWithThawIn(int night) {
-        EelPermits lake = Check.mildLake();
-        lake.setFrost(0, 13);
-        lake.pass(1);
-        lake.setFrost(0, 0);
-        lake.setFrost(night, -1);
-        return lake.bears();
     }
 }

@@ -13,15 +13,15 @@ final class Promise16AdviseTest {
 
     private static void fiveNightsCount() {
         // behind 4 nights 57 and 57, behind 5 nights 60 and 61
-        Check.same("not 4 nights", twoHoles(57, 2, 60, 4).advise(0), 1);
+        Check.same("not 4 nights", Lakes.twoHoles(57, 2, 60, 4).advise(0), 1);
         // behind 6 nights the hole 0 would be the better one
-        Check.same("not 6 nights", twoHoles(48, 5, 43, 1).advise(0), 1);
+        Check.same("not 6 nights", Lakes.twoHoles(48, 5, 43, 1).advise(0), 1);
     }
 
     private static void ofSeveralTheSmallestNumber() {
-        Check.same("both alike", twoHoles(30, 1, 30, 1).advise(0), 0);
-        Check.same("nothing in both", twoHoles(0, 0, 0, 0).advise(0), 0);
-        EelPermits lake = twoHoles(0, 0, 0, 0);
+        Check.same("both alike", Lakes.twoHoles(30, 1, 30, 1).advise(0), 0);
+        Check.same("nothing in both", Lakes.twoHoles(0, 0, 0, 0).advise(0), 0);
+        EelPermits lake = Lakes.twoHoles(0, 0, 0, 0);
         lake.go(0, 1);
         Check.same("nothing in both, being at 1", lake.advise(0), 0);
         Check.same("still at 1", lake.spearer(0, 2), 1);
@@ -51,7 +51,7 @@ final class Promise16AdviseTest {
 
     /** At 0 others spear first, and at 1 there is less, but for this one alone. */
     private static void theOwnEelsCount() {
-        EelPermits lake = Check.mildLake();
+        EelPermits lake = Lakes.mild();
         lake.set(1, 1, 60, 4);
         lake.set(7, 7, 30, 4);
         lake.cut(1, 1);
@@ -62,7 +62,7 @@ final class Promise16AdviseTest {
         }
         Check.same("the first one", lake.advise(0), 0);
         Check.same("the last one", lake.advise(3), 1);
-        EelPermits lamps = Check.mildLake();
+        EelPermits lamps = Lakes.mild();
         lamps.cut(1, 1);
         lamps.cut(7, 7);
         lamps.set(1, 1, 12, 0);
@@ -76,13 +76,13 @@ final class Promise16AdviseTest {
     }
 
     private static void wardensAndIceCount() {
-        EelPermits lake = twoHoles(60, 0, 20, 0);
+        EelPermits lake = Lakes.twoHoles(60, 0, 20, 0);
         lake.license(1, 0);
         lake.license(30, 0);
         lake.warden(0, 0, 1);
         Check.same("1 a night at 0, some more at 1", lake.advise(1), 1);
         Check.same("the one with the great permit", lake.advise(2), 0);
-        EelPermits thaw = twoHoles(57, 2, 60, 4);
+        EelPermits thaw = Lakes.twoHoles(57, 2, 60, 4);
         thaw.set(1, 1, 57, 1);
         thaw.set(6, 6, 60, 2);
         Check.same("with ice for 5 nights", thaw.advise(0), 1);
@@ -126,16 +126,6 @@ final class Promise16AdviseTest {
         Check.badIndex(lake, "advise(-1)", () -> lake.advise(-1));
         Check.badIndex(lake, "advise(1)", () -> lake.advise(1));
         Check.badIndex(lake, "advise(MAX)", () -> lake.advise(Integer.MAX_VALUE));
-    }
-
-    private static EelPermits twoHoles(int eels, int mud, int otherEels, int otherMud) {
-        EelPermits lake = Check.mildLake();
-        lake.set(1, 1, eels, mud);
-        lake.set(6, 6, otherEels, otherMud);
-        lake.cut(1, 1);
-        lake.cut(6, 6);
-        lake.license(30, 0);
-        return lake;
     }
 
     private static EelPermits busyLake(int kind) {

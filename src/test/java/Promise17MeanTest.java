@@ -1,7 +1,7 @@
 /** Promise 17: mean. */
 final class Promise17MeanTest {
     public static void main(String[] args) {
-        EelPermits lake = Check.mildLake();
+        EelPermits lake = Lakes.mild();
         Check.same("no spearers", lake.mean(), 0.0);
         lake.license(30, 0);
         Check.same("no night yet", lake.mean(), 0.0);

@@ -1,7 +1,10 @@
-/** Runs of 512 calls, good and bad ones, on the class and on its twin; their numbers come from a fixed row. */
+/**
+ * Runs of 512 calls on the class and on its twin, half of them good and bad ones, and half of them digests; their
+ * numbers come from a fixed row.
+ */
 final class RandomRunsTest {
-    private static final int RUNS = 400;
-    private static final int CALLS = 512;
+    private static final int RUNS = 800;
+    private static final int CALLS = 512 / 2;
     private static final int[] WILD = {Integer.MIN_VALUE, -21, -2, -1, 7, 9, 12, 31, 41, 61, Integer.MAX_VALUE};
 
     private long seed;
