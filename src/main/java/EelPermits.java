@@ -144,7 +144,7 @@ public final class EelPermits {
 
     // ---- what is there
 
-    /** Tells of a cell: 0 eels, 1 mud, 2 the open hole in it, 3 what a spearer would catch there. */
+    /** Tells of a cell: 0 eels, 1 mud, 2 the open hole in it, 3 what a spearer without a lamp would catch there. */
     public int cell(int x, int y, int what) throws IndexOutOfBoundsException {
         if (!isCell(x, y) || !isWithin(what, 0, CELL_FACTS - 1)) {
             throw new IndexOutOfBoundsException("no such cell, or nothing to tell of it");
